@@ -708,7 +708,6 @@ public final class BeatPages {
       pages.setAll(0);
       pageCount = 0;
       hand = NONE;
-      work = 0;
     }
 
     int countPages(int sample) {
@@ -753,7 +752,6 @@ public final class BeatPages {
       if (work >= PAGE_WORK) {
         addPage(hand, 1);
         hand = NONE;
-        work = 0;
       }
     }
 

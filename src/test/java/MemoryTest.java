@@ -12,12 +12,16 @@ final class MemoryTest {
     nextUse();
     nextUseOverSongs();
     nextUseInFills();
+    onlyThePatternsThatAreHeard();
     usedAtThisTickIsNotNext();
     throwsOutTheFarthest();
     ofSeveralTheHighestGoes();
     throwsOutWhatHasNoUse();
     notForAFartherOne();
     notForOneAsFar();
+    aSinglePageMayGo();
+    nothingGoesForNothing();
+    startEmptiesAFullMemory();
     heardOnlyIfWhole();
     tracksByRisingNumbers();
     soundNumberIsAnInt();
@@ -194,6 +198,19 @@ final class MemoryTest {
     Check.due("no next fill", x.nextUse(2), -1);
   }
 
+  private static void onlyThePatternsThatAreHeard() {
+    BeatPages x = withSteps(new int[] {0, 3, 0, 0}, new int[] {1, 0, 0, 1}, new int[] {2, 3, 15, 2});
+    x.setFill(1, 0, 12, 3);
+    x.setFill(0, 3, 15, 4);
+    x.setFeel(0, 0, 2);
+    play(x, 0, 0, 0, 0);
+    Check.due("heard", x.nextUse(0), 192);
+    Check.due("the pattern behind it is not heard", x.nextUse(1), -1);
+    Check.due("nor one farther on", x.nextUse(2), -1);
+    Check.due("nor the fill of another", x.nextUse(3), -1);
+    Check.due("its own fill is", x.nextUse(4), 192 + 180);
+  }
+
   private static void usedAtThisTickIsNotNext() {
     BeatPages x = withSteps(new int[] {0, 0, 0, 0}, new int[] {0, 0, 1, 1}, new int[] {0, 0, 2, 0});
     play(x, 0);
@@ -283,6 +300,45 @@ final class MemoryTest {
     Check.due("none in hand", x.inHand(), -1);
     x.tick(1);
     loadedDue("one without a use is", x, 5, 6, 0);
+  }
+
+  private static void aSinglePageMayGo() {
+    BeatPages x = withSteps(new int[] {0, 0, 9, 0}, new int[] {0, 0, 8, 1}, new int[] {0, 1, 9, 2},
+        new int[] {0, 0, 10, 3}, new int[] {1, 0, 0, 0}, new int[] {1, 1, 0, 2});
+    sizes(x, 6, 1, 5, 1);
+    play(x, 0, 1);
+    x.tick(96);
+    loadedDue("full", x, 6, 1, 5, 0);
+    x.tick(1);
+    loadedDue("its only page goes", x, 6, 0, 5, 0);
+    Check.due("in hand", x.inHand(), 31);
+  }
+
+  private static void nothingGoesForNothing() {
+    BeatPages x = withSteps(new int[] {0, 0, 8, 0}, new int[] {0, 0, 9, 1}, new int[] {0, 0, 15, 7});
+    sizes(x, 6, 4, 1, 1, 1, 1, 1, 2);
+    play(x, 0);
+    x.tick(120);
+    for (int step = 0; step < 7; step++) {
+      loadedDue("all that is used is there", x, 6, 4, 0, 0, 0, 0, 0, 2);
+      Check.due("none in hand", x.inHand(), -1);
+      x.tick(9);
+    }
+  }
+
+  private static void startEmptiesAFullMemory() {
+    BeatPages x = withSteps(new int[] {0, 0, 8, 0}, new int[] {0, 1, 8, 1});
+    sizes(x, 6, 6);
+    play(x, 0);
+    x.tick(96);
+    loadedDue("full", x, 6, 6);
+    x.skip();
+    loadedDue("full as it was then", x, 6, 6);
+    x.start();
+    loadedDue("empty", x, 0, 0);
+    x.tick(96);
+    loadedDue("full again", x, 6, 6);
+    Check.due("both are heard", x.tick(1), 2);
   }
 
   private static void heardOnlyIfWhole() {

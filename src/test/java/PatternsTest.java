@@ -12,6 +12,7 @@ final class PatternsTest {
     setFeel();
     freezeAnswers();
     freezeKeepsTunes();
+    eachPatternKeepsItsOwnTunes();
     refusedWhilePlayed();
     firstListedExceptionFirst();
     Check.finish("PatternsTest");
@@ -188,6 +189,17 @@ final class PatternsTest {
     }
     Check.due("setFeel after refusals", x.setFeel(0, 0, 0), 3);
     swingMovesOddSteps();
+    eachFillIsItsOwn();
+  }
+
+  private static void eachFillIsItsOwn() {
+    BeatPages x = new BeatPages();
+    for (int at = 0; at < 12 * 16; at++) {
+      x.setFill(at / 16, at / 4 % 4, 12 + at % 4, at * 5 % 7);
+    }
+    for (int at = 0; at < 12 * 16; at++) {
+      Check.due("fill kept", x.setFill(at / 16, at / 4 % 4, 12 + at % 4, -1), at * 5 % 7);
+    }
   }
 
   private static void swingMovesOddSteps() {
@@ -257,6 +269,31 @@ final class PatternsTest {
     x.freeze(0, false);
     x.freeze(0, true);
     Check.due("thawed and frozen, it keeps those of now", heard(x, 192), 212);
+  }
+
+  private static void eachPatternKeepsItsOwnTunes() {
+    BeatPages x = new BeatPages();
+    for (int pattern = 0; pattern < 3; pattern++) {
+      x.setStep(pattern, 0, 8, 0);
+      x.setStep(pattern, 0, 9, 7);
+      x.tune(0, pattern + 1);
+      x.tune(7, -pattern - 1);
+      x.freeze(pattern, true);
+    }
+    x.tune(0, 12);
+    x.tune(7, -12);
+    for (int pattern = 2; pattern >= 0; pattern--) {
+      x.addEntry(0, pattern, 1);
+    }
+    x.addToSet(0);
+    x.start();
+    int want = 0;
+    for (int pattern = 2; pattern >= 0; pattern--) {
+      Check.due("two samples sound", x.tick(192), 2);
+      want = 31 * want + pattern + 1 + 12;
+      want = 31 * want + 700 - pattern - 1 + 12;
+      Check.due("each pattern keeps its own tunes", x.soundNumber(), want);
+    }
   }
 
   private static void refusedWhilePlayed() {

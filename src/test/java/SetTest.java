@@ -6,6 +6,7 @@ final class SetTest {
   public static void main(String[] args) {
     addToSet();
     clearSet();
+    whatWasClearedIsGone();
     start();
     startRefusals();
     tickAnswers();
@@ -79,6 +80,26 @@ final class SetTest {
       x.addToSet(0);
     }
     Check.due("clearSet of 8", x.clearSet(), 8);
+  }
+
+  private static void whatWasClearedIsGone() {
+    BeatPages x = threeSongs();
+    x.addToSet(0);
+    x.addToSet(5);
+    x.addToSet(1);
+    x.clearSet();
+    x.addToSet(2);
+    Check.due("the song without bars is gone", x.start(), 3);
+    x.skip();
+    x.clearSet();
+    x.addToSet(2);
+    x.addToSet(1);
+    x.clearSet();
+    x.addToSet(2);
+    x.start();
+    Check.due("nor is a cleared one heard", x.nextUse(1), -1);
+    x.tick(3 * 192);
+    Check.due("over behind the one song", x.place(), -1);
   }
 
   private static void start() {

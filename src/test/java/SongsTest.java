@@ -13,6 +13,7 @@ final class SongsTest {
     turnsAreCountedOverTheSong();
     beats();
     beatsInFills();
+    beatsOfOtherPatternsDoNotCount();
     refusedWhilePlayed();
     Check.finish("SongsTest");
   }
@@ -235,6 +236,25 @@ final class SongsTest {
     beatsDue("every fourth", x, 0, 13);
     x.setFeel(0, 5, 5);
     beatsDue("every fifth of four", x, 0, 12);
+  }
+
+  private static void beatsOfOtherPatternsDoNotCount() {
+    BeatPages x = new BeatPages();
+    for (int at = 0; at < 64; at++) {
+      x.setStep(4, at / 16, at % 16, 0);
+      x.setFill(4, at / 16, 12 + at % 4, 0);
+      x.setStep(6, at / 16, at % 16, 0);
+      x.setFill(6, at / 16, 12 + at % 4, 0);
+    }
+    x.setFeel(5, 0, 2);
+    x.addEntry(0, 5, 2);
+    beatsDue("of other patterns", x, 0, 0);
+    x.addToSet(0);
+    x.start();
+    Check.due("nor are they used", x.nextUse(0), -1);
+    x.tick(384);
+    Check.due("nor do they sound", x.sounds(), 0);
+    Check.due("nor are they missed", x.misses(), 0);
   }
 
   private static void refusedWhilePlayed() {
