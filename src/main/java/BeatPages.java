@@ -140,7 +140,8 @@ public final class BeatPages {
   public int beats(int song) throws IndexOutOfBoundsException {
     needSong(song);
     int count = 0;
-    for (int bar = 0; bar < songs.countBars(song); bar++) {
+    int end = songs.countBars(song);
+    for (int bar = 0; bar < end; bar++) {
       count += patterns.countBySteps(songs.codeOf(song, bar));
     }
     return count;
@@ -149,7 +150,8 @@ public final class BeatPages {
   public int beatsByTicks(int song) throws IndexOutOfBoundsException {
     needSong(song);
     int count = 0;
-    for (int bar = 0; bar < songs.countBars(song); bar++) {
+    int end = songs.countBars(song);
+    for (int bar = 0; bar < end; bar++) {
       count += patterns.countByTicks(songs.codeOf(song, bar));
     }
     return count;
