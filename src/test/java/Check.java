@@ -1,3 +1,6 @@
+import java.util.HashSet;
+import java.util.Set;
+
 /** Counts the answers that are not as due; each test class runs in a machine of its own. */
 final class Check {
   interface Call {
@@ -6,8 +9,16 @@ final class Check {
 
   private static int made = 0;
   private static int wrong = 0;
+  private static final Set<String> sentences = new HashSet<>();
+  private static String sentence = "";
 
   private Check() {
+  }
+
+  /** The document's words with which the answers from here on stand or fall: a wrong one is told with them. */
+  static void sentence(String words) {
+    sentences.add(words);
+    sentence = " [" + words + "]";
   }
 
   static void due(String call, long got, long want) {
@@ -33,15 +44,8 @@ final class Check {
     refuses(call, IllegalStateException.class, made);
   }
 
-  static void finish(String name) {
-    System.out.println(name + ": " + made + " answers, " + wrong + " not as due");
-    if (wrong != 0 || made == 0) {
-      System.exit(1);
-    }
-  }
-
   // The class itself is asked for, for the machine's own exceptions stand below the promised ones.
-  private static void refuses(String call, Class<? extends RuntimeException> kind, Call refused) {
+  static void refuses(String call, Class<? extends RuntimeException> kind, Call refused) {
     made++;
     try {
       refused.make();
@@ -53,10 +57,27 @@ final class Check {
     }
   }
 
+  static void answers(String call, Call asked) {
+    made++;
+    try {
+      asked.make();
+    } catch (RuntimeException e) {
+      tell(call + " threw " + e.getClass().getName() + ", due is an answer");
+    }
+  }
+
+  static void finish(String name) {
+    String of = sentences.isEmpty() ? "" : sentences.size() + " sentences, ";
+    System.out.println(name + ": " + of + made + " answers, " + wrong + " not as due");
+    if (wrong != 0 || made == 0) {
+      System.exit(1);
+    }
+  }
+
   private static void tell(String line) {
     wrong++;
     if (wrong <= 50) {
-      System.out.println(line);
+      System.out.println(line + sentence);
     }
   }
 }

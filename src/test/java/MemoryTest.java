@@ -1,5 +1,5 @@
 /** Promises 20 to 25: the memory, the loader, and what is heard. */
-final class MemoryTest {
+final class MemoryTest extends Ways {
   private static final int FAR = Integer.MAX_VALUE;
   private static final int NEAR = Integer.MIN_VALUE;
 
@@ -29,37 +29,8 @@ final class MemoryTest {
     Check.finish("MemoryTest");
   }
 
-  private static BeatPages withSteps(int[]... patternTrackStepSample) {
-    BeatPages x = new BeatPages();
-    for (int[] step : patternTrackStepSample) {
-      x.setStep(step[0], step[1], step[2], step[3]);
-    }
-    return x;
-  }
-
-  private static void sizes(BeatPages x, int... sizes) {
-    for (int sample = 0; sample < sizes.length; sample++) {
-      x.setSize(sample, sizes[sample]);
-    }
-  }
-
-  /** Plays one song of one bar of each of these patterns. */
-  private static void play(BeatPages x, int... patterns) {
-    for (int pattern : patterns) {
-      x.addEntry(0, pattern, 1);
-    }
-    x.addToSet(0);
-    x.start();
-  }
-
-  private static void loadedDue(String call, BeatPages x, int... pages) {
-    for (int sample = 0; sample < pages.length; sample++) {
-      Check.due(call + ": loaded(" + sample + ")", x.loaded(sample), pages[sample]);
-    }
-  }
-
   private static void refusals() {
-    BeatPages x = withSteps(new int[] {0, 0, 4, 0});
+    BeatPages x = withSteps(at(0, 0, 4, 0));
     for (int round = 0; round < 2; round++) {
       for (int sample : new int[] {-1, 8, FAR, NEAR}) {
         Check.noSuch("loaded", () -> x.loaded(sample));
@@ -73,7 +44,7 @@ final class MemoryTest {
 
   private static void loadedPageByPage() {
     for (int size = 1; size <= 6; size++) {
-      BeatPages x = withSteps(new int[] {0, 0, 8, 3});
+      BeatPages x = withSteps(at(0, 0, 8, 3));
       x.setSize(3, size);
       play(x, 0);
       for (int ticks = 1; ticks <= 60; ticks++) {
@@ -84,7 +55,7 @@ final class MemoryTest {
   }
 
   private static void inHand() {
-    BeatPages x = withSteps(new int[] {0, 0, 8, 7}, new int[] {0, 0, 9, 2});
+    BeatPages x = withSteps(at(0, 0, 8, 7), at(0, 0, 9, 2));
     x.setSize(7, 2);
     play(x, 0);
     Check.due("none at first", x.inHand(), -1);
@@ -98,7 +69,7 @@ final class MemoryTest {
   }
 
   private static void nearestFirst() {
-    BeatPages x = withSteps(new int[] {0, 0, 9, 0}, new int[] {0, 3, 5, 6}, new int[] {0, 1, 7, 3});
+    BeatPages x = withSteps(at(0, 0, 9, 0), at(0, 3, 5, 6), at(0, 1, 7, 3));
     sizes(x, 2, 1, 1, 1, 1, 1, 1, 1);
     play(x, 0);
     x.tick(8);
@@ -107,7 +78,7 @@ final class MemoryTest {
     loadedDue("second", x, 0, 0, 0, 1, 0, 0, 1, 0);
     x.tick(16);
     loadedDue("third", x, 2, 0, 0, 1, 0, 0, 1, 0);
-    BeatPages y = withSteps(new int[] {0, 0, 9, 0}, new int[] {0, 0, 1, 1}, new int[] {0, 0, 2, 2});
+    BeatPages y = withSteps(at(0, 0, 9, 0), at(0, 0, 1, 1), at(0, 0, 2, 2));
     sizes(y, 6, 1, 6);
     play(y, 0);
     y.tick(12);
@@ -118,7 +89,7 @@ final class MemoryTest {
   }
 
   private static void ofSeveralTheLowest() {
-    BeatPages x = withSteps(new int[] {0, 0, 4, 6}, new int[] {0, 1, 4, 5}, new int[] {0, 2, 4, 7});
+    BeatPages x = withSteps(at(0, 0, 4, 6), at(0, 1, 4, 5), at(0, 2, 4, 7));
     play(x, 0);
     x.tick(1);
     Check.due("the lowest one", x.inHand(), 51);
@@ -129,8 +100,8 @@ final class MemoryTest {
   }
 
   private static void nextUse() {
-    BeatPages x = withSteps(new int[] {0, 0, 4, 0}, new int[] {0, 1, 8, 0}, new int[] {1, 0, 15, 1},
-        new int[] {2, 3, 0, 2}, new int[] {3, 0, 15, 3}, new int[] {4, 0, 0, 4});
+    BeatPages x = withSteps(at(0, 0, 4, 0), at(0, 1, 8, 0), at(1, 0, 15, 1),
+        at(2, 3, 0, 2), at(3, 0, 15, 3), at(4, 0, 0, 4));
     x.setFeel(3, 6, 0);
     Check.due("before the set", x.nextUse(0), -1);
     play(x, 0, 1, 2, 3, 4);
@@ -157,8 +128,8 @@ final class MemoryTest {
   }
 
   private static void nextUseOverSongs() {
-    BeatPages x = withSteps(new int[] {0, 0, 2, 0}, new int[] {1, 0, 2, 1}, new int[] {2, 0, 2, 2},
-        new int[] {3, 0, 2, 3}, new int[] {4, 0, 2, 4});
+    BeatPages x = withSteps(at(0, 0, 2, 0), at(1, 0, 2, 1), at(2, 0, 2, 2),
+        at(3, 0, 2, 3), at(4, 0, 2, 4));
     for (int song = 0; song < 5; song++) {
       x.addEntry(song, song, 1);
       x.addToSet(song);
@@ -181,7 +152,7 @@ final class MemoryTest {
   }
 
   private static void nextUseInFills() {
-    BeatPages x = withSteps(new int[] {0, 0, 12, 1}, new int[] {0, 0, 11, 4});
+    BeatPages x = withSteps(at(0, 0, 12, 1), at(0, 0, 11, 4));
     x.setFill(0, 2, 13, 2);
     x.setFeel(0, 3, 2);
     play(x, 0, 0, 0);
@@ -199,7 +170,7 @@ final class MemoryTest {
   }
 
   private static void onlyThePatternsThatAreHeard() {
-    BeatPages x = withSteps(new int[] {0, 3, 0, 0}, new int[] {1, 0, 0, 1}, new int[] {2, 3, 15, 2});
+    BeatPages x = withSteps(at(0, 3, 0, 0), at(1, 0, 0, 1), at(2, 3, 15, 2));
     x.setFill(1, 0, 12, 3);
     x.setFill(0, 3, 15, 4);
     x.setFeel(0, 0, 2);
@@ -212,7 +183,7 @@ final class MemoryTest {
   }
 
   private static void usedAtThisTickIsNotNext() {
-    BeatPages x = withSteps(new int[] {0, 0, 0, 0}, new int[] {0, 0, 1, 1}, new int[] {0, 0, 2, 0});
+    BeatPages x = withSteps(at(0, 0, 0, 0), at(0, 0, 1, 1), at(0, 0, 2, 0));
     play(x, 0);
     x.tick(1);
     Check.due("missed at the tick 0", x.misses(), 1);
@@ -220,8 +191,8 @@ final class MemoryTest {
   }
 
   private static void throwsOutTheFarthest() {
-    BeatPages x = withSteps(new int[] {0, 0, 9, 0}, new int[] {0, 0, 11, 1}, new int[] {0, 0, 13, 2},
-        new int[] {1, 0, 5, 1}, new int[] {1, 0, 6, 0});
+    BeatPages x = withSteps(at(0, 0, 9, 0), at(0, 0, 11, 1), at(0, 0, 13, 2),
+        at(1, 0, 5, 1), at(1, 0, 6, 0));
     sizes(x, 6, 6, 2);
     play(x, 0, 1);
     x.tick(96);
@@ -245,8 +216,8 @@ final class MemoryTest {
   }
 
   private static void ofSeveralTheHighestGoes() {
-    BeatPages x = withSteps(new int[] {0, 0, 8, 0}, new int[] {0, 1, 8, 1}, new int[] {0, 2, 8, 2},
-        new int[] {0, 0, 9, 5}, new int[] {1, 0, 0, 0}, new int[] {1, 1, 0, 1}, new int[] {1, 2, 0, 2});
+    BeatPages x = withSteps(at(0, 0, 8, 0), at(0, 1, 8, 1), at(0, 2, 8, 2),
+        at(0, 0, 9, 5), at(1, 0, 0, 0), at(1, 1, 0, 1), at(1, 2, 0, 2));
     sizes(x, 4, 4, 4);
     play(x, 0, 1);
     x.tick(96);
@@ -257,15 +228,15 @@ final class MemoryTest {
   }
 
   private static void throwsOutWhatHasNoUse() {
-    BeatPages x = withSteps(new int[] {0, 0, 8, 0}, new int[] {0, 1, 8, 1}, new int[] {0, 0, 10, 5},
-        new int[] {3, 0, 0, 1});
+    BeatPages x = withSteps(at(0, 0, 8, 0), at(0, 1, 8, 1), at(0, 0, 10, 5),
+        at(3, 0, 0, 1));
     sizes(x, 6, 6, 1, 1, 1, 3);
     play(x, 0, 2, 2, 3);
     x.tick(97);
     loadedDue("none is the farthest", x, 5, 6, 0, 0, 0, 0);
     x.tick(23);
     loadedDue("still the one without a use", x, 3, 6, 0, 0, 0, 3);
-    BeatPages y = withSteps(new int[] {0, 0, 8, 0}, new int[] {0, 1, 8, 1}, new int[] {0, 0, 10, 5});
+    BeatPages y = withSteps(at(0, 0, 8, 0), at(0, 1, 8, 1), at(0, 0, 10, 5));
     sizes(y, 6, 6);
     play(y, 0);
     y.tick(97);
@@ -273,7 +244,7 @@ final class MemoryTest {
   }
 
   private static void notForAFartherOne() {
-    BeatPages x = withSteps(new int[] {0, 0, 9, 0}, new int[] {0, 0, 10, 1}, new int[] {0, 0, 12, 2});
+    BeatPages x = withSteps(at(0, 0, 9, 0), at(0, 0, 10, 1), at(0, 0, 12, 2));
     sizes(x, 6, 6, 6);
     play(x, 0);
     x.tick(108);
@@ -281,7 +252,7 @@ final class MemoryTest {
     Check.due("none in hand", x.inHand(), -1);
     x.tick(1);
     loadedDue("until a sample has no use", x, 5, 6, 0);
-    BeatPages y = withSteps(new int[] {0, 0, 8, 0}, new int[] {0, 0, 9, 1}, new int[] {0, 0, 11, 2});
+    BeatPages y = withSteps(at(0, 0, 8, 0), at(0, 0, 9, 1), at(0, 0, 11, 2));
     sizes(y, 6, 6, 6);
     play(y, 0);
     y.tick(97);
@@ -292,7 +263,7 @@ final class MemoryTest {
   }
 
   private static void notForOneAsFar() {
-    BeatPages x = withSteps(new int[] {0, 0, 10, 0}, new int[] {0, 1, 12, 1}, new int[] {0, 2, 12, 2});
+    BeatPages x = withSteps(at(0, 0, 10, 0), at(0, 1, 12, 1), at(0, 2, 12, 2));
     sizes(x, 6, 6, 1);
     play(x, 0);
     x.tick(120);
@@ -303,8 +274,8 @@ final class MemoryTest {
   }
 
   private static void aSinglePageMayGo() {
-    BeatPages x = withSteps(new int[] {0, 0, 9, 0}, new int[] {0, 0, 8, 1}, new int[] {0, 1, 9, 2},
-        new int[] {0, 0, 10, 3}, new int[] {1, 0, 0, 0}, new int[] {1, 1, 0, 2});
+    BeatPages x = withSteps(at(0, 0, 9, 0), at(0, 0, 8, 1), at(0, 1, 9, 2),
+        at(0, 0, 10, 3), at(1, 0, 0, 0), at(1, 1, 0, 2));
     sizes(x, 6, 1, 5, 1);
     play(x, 0, 1);
     x.tick(96);
@@ -315,7 +286,7 @@ final class MemoryTest {
   }
 
   private static void nothingGoesForNothing() {
-    BeatPages x = withSteps(new int[] {0, 0, 8, 0}, new int[] {0, 0, 9, 1}, new int[] {0, 0, 15, 7});
+    BeatPages x = withSteps(at(0, 0, 8, 0), at(0, 0, 9, 1), at(0, 0, 15, 7));
     sizes(x, 6, 4, 1, 1, 1, 1, 1, 2);
     play(x, 0);
     x.tick(120);
@@ -327,7 +298,7 @@ final class MemoryTest {
   }
 
   private static void startEmptiesAFullMemory() {
-    BeatPages x = withSteps(new int[] {0, 0, 8, 0}, new int[] {0, 1, 8, 1});
+    BeatPages x = withSteps(at(0, 0, 8, 0), at(0, 1, 8, 1));
     sizes(x, 6, 6);
     play(x, 0);
     x.tick(96);
@@ -342,7 +313,7 @@ final class MemoryTest {
   }
 
   private static void heardOnlyIfWhole() {
-    BeatPages x = withSteps(new int[] {0, 0, 1, 0}, new int[] {0, 0, 2, 0});
+    BeatPages x = withSteps(at(0, 0, 1, 0), at(0, 0, 2, 0));
     x.setSize(0, 2);
     play(x, 0);
     Check.due("one of two pages", x.tick(13), 0);
@@ -353,7 +324,7 @@ final class MemoryTest {
     Check.due("missed before", x.misses(), 1);
     Check.due("heard", x.sounds(), 1);
     Check.due("the sound number", x.soundNumber(), 12);
-    BeatPages y = withSteps(new int[] {0, 0, 0, 1}, new int[] {0, 0, 1, 2}, new int[] {0, 0, 2, 3});
+    BeatPages y = withSteps(at(0, 0, 0, 1), at(0, 0, 1, 2), at(0, 0, 2, 3));
     y.setSize(2, 2);
     y.setFeel(0, 3, 0);
     play(y, 0);
@@ -368,8 +339,8 @@ final class MemoryTest {
   }
 
   private static void tracksByRisingNumbers() {
-    BeatPages x = withSteps(new int[] {0, 0, 6, 3}, new int[] {0, 1, 6, 1}, new int[] {0, 2, 6, 3},
-        new int[] {0, 3, 6, 0});
+    BeatPages x = withSteps(at(0, 0, 6, 3), at(0, 1, 6, 1), at(0, 2, 6, 3),
+        at(0, 3, 6, 0));
     x.tune(3, 5);
     x.tune(1, -12);
     x.tune(0, 12);
@@ -384,7 +355,7 @@ final class MemoryTest {
   }
 
   private static void soundNumberIsAnInt() {
-    BeatPages x = withSteps(new int[] {0, 0, 6, 7}, new int[] {0, 1, 8, 7}, new int[] {0, 2, 10, 7});
+    BeatPages x = withSteps(at(0, 0, 6, 7), at(0, 1, 8, 7), at(0, 2, 10, 7));
     x.addEntry(0, 0, 4);
     x.tune(7, 12);
     play(x, 0);
@@ -403,7 +374,7 @@ final class MemoryTest {
   }
 
   private static void afterTheSet() {
-    BeatPages x = withSteps(new int[] {0, 0, 4, 2}, new int[] {0, 0, 15, 3}, new int[] {0, 1, 0, 4});
+    BeatPages x = withSteps(at(0, 0, 4, 2), at(0, 0, 15, 3), at(0, 1, 0, 4));
     sizes(x, 1, 1, 3, 6, 6);
     play(x, 0);
     x.tick(192);
@@ -414,7 +385,7 @@ final class MemoryTest {
     x.clearSet();
     loadedDue("and without a list", x, 0, 0, 3, 6, 0);
     Check.due("no next use", x.nextUse(2), -1);
-    BeatPages y = withSteps(new int[] {0, 0, 15, 2}, new int[] {1, 0, 15, 3});
+    BeatPages y = withSteps(at(0, 0, 15, 2), at(1, 0, 15, 3));
     y.addEntry(1, 1, 1);
     play(y, 0);
     y.tick(4);

@@ -52,7 +52,7 @@ final class RandomRunsTest {
 
   private void play() {
     prepare();
-    while (made < CALLS - 14) {
+    while (made < CALLS - 16) {
       change();
       look();
     }
