@@ -28,6 +28,7 @@ final class EdgesOfSongsTest {
     stepsOfFills();
     allTracksOfFills();
     beats();
+    beatsOfTheSongAlone();
     beatsByTicks();
     Check.finish("EdgesOfSongsTest");
   }
@@ -477,6 +478,30 @@ final class EdgesOfSongsTest {
       beatsDue("and each step of the fill in them", x, 5, 4096 - 32 * (15 - at));
     }
     beatsDue("of another song", x, 4, 0);
+  }
+
+  private static void beatsOfTheSongAlone() {
+    Check.sentence("steps with a sample, of all tracks and bars.");
+    BeatPages x = new BeatPages();
+    for (int song = 0; song <= 5; song++) {
+      for (int entry = 0; entry < 8; entry++) {
+        x.addEntry(song, song, 4);
+      }
+      x.jump(song, 7, 0, 1);
+      x.setStep(song, 0, 0, song);
+    }
+    for (int song = 0; song <= 5; song++) {
+      beatsDue("64 bars between songs of 64", x, song, 64);
+    }
+    for (int song = 1; song <= 3; song += 2) {
+      x.jump(song, 7, 0, 0);
+      beatsDue("32 bars, where 64 were", x, song, 32);
+      x.jump(song, 0, 7, 1);
+      beatsDue("8 bars, where 32 were", x, song, 8);
+    }
+    for (int song = 0; song <= 4; song += 2) {
+      beatsDue("the songs beside it", x, song, 64);
+    }
   }
 
   private static void beatsByTicks() {
